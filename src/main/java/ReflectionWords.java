@@ -602,9 +602,10 @@ public final class ReflectionWords {
         }
         clearWays();
         ways[element] = 1;
-        for (int i = 0; i < n; i++) {
+        // Each step is longer by one at least, so more steps than letters lead nowhere.
+        for (int i = 0; i < n && i <= now.highest(); i++) {
             // Downwards, as what comes to x comes from lower ones, which are still of the step before.
-            for (int x = now.many - 1; x >= 0; x--) {
+            for (int x = other; x >= 0; x--) {
                 ways[x] = waysByMirrors(x);
             }
         }
@@ -1641,7 +1642,8 @@ public final class ReflectionWords {
         private int spread(Elements elements, int k, int known) {
             int answer = known;
             for (int i = 0; i + 1 < size; i++) {
-                int l = find(moved(elements, rows[k], i));
+                long row = moved(elements, rows[k], i);
+                int l = row == rows[k] ? NONE : find(row);
                 if (l != NONE && far[l] == NONE && answer < ROWS_MOST) {
                     far[l] = far[k] + 1;
                     found[answer] = l;
