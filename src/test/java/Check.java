@@ -16,6 +16,14 @@ final class Check {
         }
     }
 
+    static int wrong() {
+        return wrong;
+    }
+
+    static int asked() {
+        return asked;
+    }
+
     static void finish() {
         System.out.println(asked + " answers, " + wrong + " wrong");
         if (wrong != 0 || asked == 0) {
