@@ -469,6 +469,15 @@ public final class BoundaryElementsTest {
         due("twelve long, and c anywhere", Check.of(THIRTEEN_LONG).chains(0, 47), 13 * 2048);
     }
 
+    static void promise22_chains_askedAgain() {
+        ReflectionWords x = Check.of(SIX);
+        due("0 aba", x.chains(0, 5), 4);
+        due("ab ba", x.chains(3, 4), 0);
+        due("aba 0", x.chains(5, 0), 0);
+        due("a aba", x.chains(1, 5), 2);
+        due("a b", x.chains(1, 2), 0);
+    }
+
     static void promise22_chains_noneSuch() {
         Refused.element(-2, (x, n) -> x.chains(n, 0));
         Refused.element(-2, (x, n) -> x.chains(0, n));

@@ -1,4 +1,4 @@
-/** A test for each sentence with a boundary case: promises 39 to 41 and 43 to 58, sets of letters, weak orders, mirrors. */
+/** A test for each sentence with a boundary case: promises 39 to 41, 43 to 58, sets of letters, orders, mirrors. */
 public final class BoundaryOrdersTest {
     private static final int MAX = Refused.MAX;
     private static final int NO_NUMBER = -1000000;
@@ -116,6 +116,14 @@ public final class BoundaryOrdersTest {
 
     static void promise41_inside_anyShortestRow() {
         due("ca of cba is ac", Check.of(TWENTY_FOUR).inside(14, 5), 1);
+    }
+
+    static void promise41_inside_askedAgain() {
+        ReflectionWords x = Check.of(SIX);
+        due("a of aba", x.inside(5, 1), 2);
+        due("a of aba", x.inside(5, 1), 2);
+        due("aba of ab", x.inside(3, 5), 0);
+        due("0 of ab", x.inside(3, 0), 1);
     }
 
     static void promise41_inside_noneSuch() {
@@ -501,6 +509,16 @@ public final class BoundaryOrdersTest {
         due("29", Check.of(THIRTEEN_LONG).paths(0, 47, 29), 0);
         due("30", Check.of(THIRTEEN_LONG).paths(0, 47, 30), 0);
         due("30 from 0 to 0", Check.of(SIX).paths(0, 0, 30), 0);
+    }
+
+    static void promise54_paths_askedAgain() {
+        ReflectionWords x = Check.of(SIX);
+        due("0 aba, 3", x.paths(0, 5, 3), 4);
+        due("ab ab, 0", x.paths(3, 3, 0), 1);
+        due("ab ba, 0", x.paths(3, 4, 0), 0);
+        due("a aba, 2", x.paths(1, 5, 2), 2);
+        due("inside between", x.inside(5, 1), 2);
+        due("ba aba, 1", x.paths(4, 5, 1), 1);
     }
 
     static void promise54_paths_beyond30() {

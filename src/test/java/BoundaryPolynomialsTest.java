@@ -50,6 +50,20 @@ public final class BoundaryPolynomialsTest {
         due("0 longest, 13", x.r(0, 47, 13), 1);
         due("0 a, 1", x.r(0, 1, 1), 1);
         due("0 a, 0", x.r(0, 1, 0), -1);
+        int[] want = {-1, 2, -2, 1, 0};
+        for (int k = 0; k < want.length; k++) {
+            due("0 aba, " + k, Check.of(SIX).r(0, 5, k), want[k]);
+        }
+    }
+
+    static void promise24_r_askedAgain() {
+        ReflectionWords x = Check.of(SIX);
+        due("0 aba, 1", x.r(0, 5, 1), 2);
+        due("ab ba", x.r(3, 4, 0), 0);
+        due("a a between", x.hecke(1, 1, 1, 0), -1);
+        due("0 aba, 1", x.r(0, 5, 1), 2);
+        due("0 0", x.r(0, 0, 0), 1);
+        due("aba 0", x.r(5, 0, 0), 0);
     }
 
     static void promise24_r_0Beyond() {

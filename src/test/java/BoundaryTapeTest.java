@@ -68,6 +68,14 @@ public final class BoundaryTapeTest {
         due("bytes of the first", one.count(6), 20);
     }
 
+    static void promise01_newObject_answers512Calls() {
+        ReflectionWords x = Check.of(SIX);
+        // Check.of() took three of the calls: feed, end, group.
+        for (int call = 4; call <= 512; call++) {
+            due("call " + call, x.times(call % 6, 0), call % 6);
+        }
+    }
+
     // Promise 2
 
     static void promise02_feed_answersHowManyBytes() {
@@ -244,7 +252,8 @@ public final class BoundaryTapeTest {
 
     static void promise04_group_withoutEnd() {
         String[] texts = {
-            "group 3;bond a b 3;bond b c 3;bond c a 3;", "group 3;bond a b 4;bond b c 4;", "group 3;bond a b 6;bond b c 3;",
+            "group 3;bond a b 3;bond b c 3;bond c a 3;", "group 3;bond a b 4;bond b c 4;",
+            "group 3;bond a b 6;bond b c 3;",
             "group 3;bond a b 12;bond b c 12;bond c a 12;", "group 3;bond b c 12;bond a b 3;",
             "group 4;bond a b 3;bond b c 3;bond c d 3;bond d a 3;"};
         for (String text : texts) {
@@ -296,6 +305,44 @@ public final class BoundaryTapeTest {
         due("abc", x.order(10), 4);
         due("bond b c", x.bond(1, 2), 3);
         due("bond a c", x.bond(0, 2), 2);
+    }
+
+    /** Each text again and again, by turns: nothing may be left of the one or two told ahead of it. */
+    static void promise04_group_nothingIsLeftOfOthers() {
+        ReflectionWords x = new ReflectionWords();
+        String[] texts = {SIXTY, Refused.LONE, TWENTY_FOUR, SIX, Refused.FREE, TWENTY_FOUR, SIXTY, SIX, TWENTY_FOUR};
+        for (String text : texts) {
+            Check.group(x, text);
+            ReflectionWords alone = Check.of(text);
+            int top = alone.count(1) - 1;
+            due("reflections", x.count(3), alone.count(3));
+            due("the last reflection", x.reflection(x.count(3) - 1), alone.reflection(alone.count(3) - 1));
+            due("the longest's rows", x.spellings(top), alone.spellings(top));
+            due("the longest turned", x.inverse(top), alone.inverse(top));
+            for (int e = 0; e <= top; e += 3) {
+                due("ahead of " + e, x.descents(e, 0), alone.descents(e, 0));
+                due("behind " + e, x.descents(e, 1), alone.descents(e, 1));
+                due("below " + e, x.interval(0, e), alone.interval(0, e));
+                due("mirrors of " + e, x.mirrors(e), alone.mirrors(e));
+            }
+        }
+    }
+
+    static void promise04_group_polynomialsOfThisGroup() {
+        ReflectionWords x = Check.of(SIXTY);
+        due("none crooked", x.crooked(), 0);
+        due("cells", x.cellMany(2), 9);
+        Check.group(x, TWENTY_FOUR);
+        due("b bacb", x.p(2, 18, 1), 1);
+        due("crooked", x.crooked(), 6);
+        due("cells", x.cellMany(0), 10);
+        due("the longest alone", x.cellOf(23, 2), 1L << 23);
+        Check.group(x, SIX);
+        due("a, ba", x.cellOf(1, 0), 18);
+        due("crooked", x.crooked(), 0);
+        Check.group(x, TWENTY_FOUR);
+        due("a 0, first of all", x.product(0, 0, 1), 1);
+        due("mu", x.mu(2, 18), 1);
     }
 
     static void promise04_group_noActsThen() {
@@ -413,7 +460,8 @@ public final class BoundaryTapeTest {
     }
 
     static void promise04_group_rankOutOfBounds() {
-        String[] numbers = {"0", "00", "6", "7", "10", "12", "99", "257", "65537", "4294967297", "18446744073709551617"};
+        String[] numbers = {
+            "0", "00", "6", "7", "10", "12", "99", "257", "65537", "4294967297", "18446744073709551617"};
         for (String number : numbers) {
             faulty("group " + number + ";", 2, 6);
         }
@@ -429,7 +477,8 @@ public final class BoundaryTapeTest {
     }
 
     static void promise04_group_bondOutOfBounds() {
-        String[] numbers = {"0", "1", "2", "02", "13", "14", "20", "99", "259", "65539", "4294967299", "18446744073709551619"};
+        String[] numbers = {
+            "0", "1", "2", "02", "13", "14", "20", "99", "259", "65539", "4294967299", "18446744073709551619"};
         for (String number : numbers) {
             faulty("group 2;bond a b " + number + ";", 2, 17);
         }
@@ -477,8 +526,17 @@ public final class BoundaryTapeTest {
         faulty("a", 1, 0);
         faulty("groupe 2;", 1, 0);
         faulty("grou p 2;", 1, 0);
+        for (String word : new String[] {"aroup", "gaoup", "grxup", "groap", "groua", "bondb"}) {
+            faulty(word + " 2;", 1, 0);
+        }
         faulty("\n bond a b 3;group 2;", 1, 2);
         faulty(";group 2;", 1, 0);
+    }
+
+    static void promise04_group_bondIsEachOtherLine() {
+        for (String word : new String[] {"aond", "bnnd", "boad", "bona", "bon", "bonds", "a"}) {
+            faulty("group 2;" + word + " a b 3;", 1, 8);
+        }
     }
 
     static void promise04_group_andNoOther() {

@@ -13,7 +13,7 @@ import java.util.regex.Pattern;
 
 /** The face of the document, and those rules of LANGUAGE.md that can be seen in the file or in the class. */
 public final class LanguageTest {
-    private static final String FACE =
+    static final String FACE =
         "int feed 5,int end 1,int group 0,int fault 1,int count 1,int bond 2,int length 1,int letter 2,int element 0,"
         + "long spellings 1,int spelled 3,int times 2,int inverse 1,int order 1,int descents 2,int reflection 1,"
         + "int below 2,long covers 2,long interval 2,int layer 3,long chains 2,int layers 1,int r 3,int p 3,"
