@@ -17,7 +17,8 @@ public final class ReadmeTest {
     private static final Path EXAMPLE = Path.of("src/example/java/Example.java");
     private static final Path TESTS = Path.of("src/test/java");
     /** A kind of block, its lines, and what it should print, if the next block tells it. */
-    private static final Pattern BLOCK = Pattern.compile("(?s)```(\\w+)\n(.*?)```\n(?:\nIt prints:\n\n```text\n(.*?)```)?");
+    private static final Pattern BLOCK =
+        Pattern.compile("(?s)```(\\w+)\n(.*?)```\n(?:\nIt prints:\n\n```text\n(.*?)```)?");
 
     private final String page;
     private final Path checkout;
